@@ -226,7 +226,13 @@ public final class QuarrelsPawned {
         if (!world.hasText(text)) {
             return NO_SUCH;
         }
-        return counter.play(world.texts[text]);
+        Text script = world.texts[text];
+        for (int i = 0; i < script.clauseCount; i++) {
+            if (!counter.playClause(script, i)) {
+                return i;
+            }
+        }
+        return NONE;
     }
 
     /** YEARS by a SEED: DAY, or NONE. */
@@ -234,7 +240,11 @@ public final class QuarrelsPawned {
         if (seed < 0 || seed > MOST_SEED || n < 1 || n > MOST_YEARS) {
             return NONE;
         }
-        counter.spendYears(seed, n);
+        world.keepStep();
+        world.now.x = seed * 2 + FIRST_X;
+        for (int i = 0; i < n; i++) {
+            counter.liveByDraw();
+        }
         return world.now.day;
     }
 
@@ -383,7 +393,7 @@ public final class QuarrelsPawned {
             return NONE;
         }
         int when = planner.cheapestDay(quarrel, n);
-        return day ? when : laws.duesLater(quarrel, when, world.now.purse);
+        return day ? when : laws.duesBy(world.ruling, quarrel, when, world.now.purse);
     }
 
     /** A DIGIT of the TICKETS is told (NONE: not to be read). */
@@ -810,11 +820,19 @@ public final class QuarrelsPawned {
         }
 
         int dues(int quarrel) {
-            return duesLater(quarrel, 0, world.now.purse);
+            return duesBy(world.ruling, quarrel, 0, world.now.purse);
         }
 
-        int duesLater(int quarrel, int later, int purse) {
-            return duesBy(world.ruling, quarrel, later, purse);
+        /** By a TEXT (or none), so many DAYS later, PURSE being so much. */
+        int duesBy(int ruling, int quarrel, int later, int purse) {
+            nameAll(quarrel, later, purse);
+            int worth = names[3];
+            int due = worth + names[5] * worth / 50;
+            if (world.hasText(ruling) && world.texts[ruling].hasDues()) {
+                Text text = world.texts[ruling];
+                due = valueOf(text.code, text.duesFrom, text.duesTo);
+            }
+            return Math.max(0, Math.min(MOST_DUES, due));
         }
 
         int duesOfPawned() {
@@ -848,17 +866,6 @@ public final class QuarrelsPawned {
             return true;
         }
 
-        private int duesBy(int ruling, int quarrel, int later, int purse) {
-            nameAll(quarrel, later, purse);
-            int worth = names[3];
-            int due = worth + names[5] * worth / 50;
-            if (world.hasText(ruling) && world.texts[ruling].hasDues()) {
-                Text text = world.texts[ruling];
-                due = valueOf(text.code, text.duesFrom, text.duesTo);
-            }
-            return Math.max(0, Math.min(MOST_DUES, due));
-        }
-
         /** In the order of WORDS: day rain number worth heat held purse pawned. */
         private void nameAll(int quarrel, int later, int purse) {
             Stand now = world.now;
@@ -867,7 +874,7 @@ public final class QuarrelsPawned {
             names[2] = quarrel;
             names[3] = world.worth[quarrel];
             names[4] = now.heat[quarrel];
-            names[5] = now.how[quarrel] == PAWNED ? now.held(quarrel) + later : 0;
+            names[5] = now.how[quarrel] == PAWNED ? now.day - now.since[quarrel] + later : 0;
             names[6] = purse;
             names[7] = now.countPawned();
         }
@@ -882,7 +889,9 @@ public final class QuarrelsPawned {
                     return 0;
                 }
                 top -= takes;
-                stack[top] = workOut(operation, code[i] % OPERATION, top);
+                int told = code[i] % OPERATION;
+                long value = takes == 0 ? fetched(operation, told) : workedOut(operation, top);
+                stack[top] = (int) Math.max(-BOUND, Math.min(BOUND, value));
                 top++;
             }
             return stack[0];
@@ -898,41 +907,33 @@ public final class QuarrelsPawned {
             return operation <= OR ? 2 : 3;
         }
 
-        private int workOut(int operation, int told, int top) {
-            int a = stack[top];
-            int b = stack[top + 1];
+        private int fetched(int operation, int told) {
+            return operation == NAME && told < NAMES ? names[told] : told;
+        }
+
+        /** Of if both SUMs are worked out and one is taken: none does anything else, and none can fail. */
+        private long workedOut(int operation, int top) {
+            long a = stack[top];
+            long b = stack[top + 1];
             switch (operation) {
-                case PUSH: return told;
-                case NAME: return told < names.length ? names[told] : 0;
                 case NEGATE: return -a;
-                case HOT: return world.now.has(a) ? world.now.heat[a] : 0;
+                case HOT: return a >= 0 && a < world.now.quarrels ? world.now.heat[(int) a] : 0;
                 case NOT: return 1 - a;
-                // asking for both SUMs is the same: none does anything, none can fail
-                case CHOOSE: return a != 0 ? b : stack[top + 2];
-                case ADD: return bounded((long) a + b);
-                case SUBTRACT: return bounded((long) a - b);
-                case MULTIPLY: return bounded((long) a * b);
+                case ADD: return a + b;
+                case SUBTRACT: return a - b;
+                case MULTIPLY: return a * b;
                 case DIVIDE: return b == 0 ? 0 : a / b;
                 case REST: return b == 0 ? 0 : Math.abs(a) % Math.abs(b);
-                default: return isSo(operation, a, b) ? 1 : 0;
+                case LESS: return a < b ? 1 : 0;
+                case LESS_OR_SAME: return a <= b ? 1 : 0;
+                case MORE: return a > b ? 1 : 0;
+                case MORE_OR_SAME: return a >= b ? 1 : 0;
+                case SAME: return a == b ? 1 : 0;
+                case UNLIKE: return a != b ? 1 : 0;
+                case AND: return a * b;
+                case OR: return Math.max(a, b);
+                default: return a != 0 ? b : stack[top + 2];
             }
-        }
-
-        private static boolean isSo(int operation, int a, int b) {
-            switch (operation) {
-                case LESS: return a < b;
-                case LESS_OR_SAME: return a <= b;
-                case MORE: return a > b;
-                case MORE_OR_SAME: return a >= b;
-                case SAME: return a == b;
-                case UNLIKE: return a != b;
-                case AND: return a != 0 && b != 0;
-                default: return a != 0 || b != 0;
-            }
-        }
-
-        private static int bounded(long value) {
-            return (int) Math.max(-BOUND, Math.min(BOUND, value));
         }
     }
 
@@ -1004,7 +1005,10 @@ public final class QuarrelsPawned {
             if (at >= length) {
                 kind = END_OF_TAPE;
             } else if (isLetter(tape[at])) {
-                advanceWord();
+                while (at < length && isLetter(tape[at])) {
+                    at++;
+                }
+                kind = kindOfWord(at - start);
             } else if (isDigit(tape[at])) {
                 advanceNumber();
             } else {
@@ -1018,13 +1022,6 @@ public final class QuarrelsPawned {
 
         private static boolean isDigit(int sign) {
             return sign >= '0' && sign <= '9';
-        }
-
-        private void advanceWord() {
-            while (at < length && isLetter(tape[at])) {
-                at++;
-            }
-            kind = kindOfWord(at - start);
         }
 
         /** Goes along WORDS; alike is how much of the word there is as on the tape, NONE if it is another. */
@@ -1077,7 +1074,19 @@ public final class QuarrelsPawned {
                 clauses[i * CLAUSE] = word;
                 clauseCount = i + 1;
                 advance();
-                readRestOfClause(word, i * CLAUSE);
+                if (word == WORD_DUES) {
+                    inSells = false;
+                    duesFrom = codeSize;
+                    readSum(0);
+                    duesTo = codeSize;
+                } else if (word == WORD_SELLS) {
+                    inSells = true;
+                    sellsFrom = codeSize;
+                    readSum(0);
+                    sellsTo = codeSize;
+                } else {
+                    readDeed(word, i * CLAUSE);
+                }
                 expect(';');
             }
         }
@@ -1097,14 +1106,8 @@ public final class QuarrelsPawned {
             }
         }
 
-        private void readRestOfClause(int word, int place) {
+        private void readDeed(int word, int place) {
             switch (word) {
-                case WORD_DUES:
-                    readDues();
-                    break;
-                case WORD_SELLS:
-                    readSells();
-                    break;
                 case WORD_QUARREL:
                     clauses[place + 1] = takeNumber(0, PEOPLE - 1);
                     expect(WORD_BY);
@@ -1122,20 +1125,6 @@ public final class QuarrelsPawned {
                     clauses[place + 1] = takeNumber(0, QUARRELS - 1);
                     break;
             }
-        }
-
-        private void readDues() {
-            inSells = false;
-            duesFrom = codeSize;
-            readSum(0);
-            duesTo = codeSize;
-        }
-
-        private void readSells() {
-            inSells = true;
-            sellsFrom = codeSize;
-            readSum(0);
-            sellsTo = codeSize;
         }
 
         private void expect(int wanted) {
@@ -1344,11 +1333,12 @@ public final class QuarrelsPawned {
         }
 
         int redeemByHand(int quarrel) {
-            if (!canGiveBack(quarrel)) {
-                return NONE;
+            int price = priceNow(quarrel);
+            if (price != NONE) {
+                world.keepStep();
+                giveBack(quarrel, price);
             }
-            world.keepStep();
-            return giveBack(quarrel);
+            return price;
         }
 
         boolean earnByHand(int sum) {
@@ -1365,17 +1355,8 @@ public final class QuarrelsPawned {
             return passDay();
         }
 
-        /** The number of the first CLAUSE that can't be, or NONE. */
-        int play(Text text) {
-            for (int i = 0; i < text.clauseCount; i++) {
-                if (!playClause(text, i)) {
-                    return i;
-                }
-            }
-            return NONE;
-        }
-
-        private boolean playClause(Text text, int clause) {
+        /** Whether it could be done; a law is nothing to do. */
+        boolean playClause(Text text, int clause) {
             int told = text.clausePart(clause, 1);
             switch (text.clausePart(clause, 0)) {
                 case WORD_QUARREL:
@@ -1398,23 +1379,18 @@ public final class QuarrelsPawned {
                 if (world.now.day >= LAST_DAY) {
                     return false;
                 }
-                dayByHand();
+                world.keepStep();
+                passDay();
             }
             return true;
         }
 
-        void spendYears(int seed, int n) {
-            world.keepStep();
-            world.now.x = seed * 2 + FIRST_X;
-            for (int i = 0; i < n; i++) {
-                int x = world.now.x;
-                world.now.draw(2);
-                liveBy(x % 6, x / 6);
-            }
-        }
-
-        private void liveBy(int kind, int drawn) {
+        /** One draw of YEARS: what it says is done if it can be. */
+        void liveByDraw() {
             Stand now = world.now;
+            int kind = now.x % 6;
+            int drawn = now.x / 6;
+            now.draw(2);
             if (kind >= 4) {
                 if (now.day < LAST_DAY) {
                     passDay();
@@ -1425,17 +1401,13 @@ public final class QuarrelsPawned {
                     now.purse += sum;
                 }
             } else if (now.quarrels > 0) {
-                liveWith(kind, drawn % now.quarrels);
-            }
-        }
-
-        private void liveWith(int kind, int quarrel) {
-            if (kind == 0) {
-                if (world.now.isHow(quarrel, GOING_ON)) {
+                int quarrel = drawn % now.quarrels;
+                int price = kind == 0 ? NONE : priceNow(quarrel);
+                if (kind == 0 && now.how[quarrel] == GOING_ON) {
                     takeIn(quarrel);
+                } else if (price != NONE) {
+                    giveBack(quarrel, price);
                 }
-            } else if (canGiveBack(quarrel)) {
-                giveBack(quarrel);
             }
         }
 
@@ -1458,16 +1430,20 @@ public final class QuarrelsPawned {
             world.write(quarrel, WROTE_PAWNED);
         }
 
-        private boolean canGiveBack(int quarrel) {
-            return world.now.isHow(quarrel, PAWNED) && world.now.purse >= laws.dues(quarrel);
+        /** What it takes to redeem a QUARREL, or NONE if it can't be. */
+        private int priceNow(int quarrel) {
+            Stand now = world.now;
+            if (!now.isHow(quarrel, PAWNED)) {
+                return NONE;
+            }
+            int due = laws.duesBy(world.ruling, quarrel, 0, now.purse);
+            return due <= now.purse ? due : NONE;
         }
 
-        private int giveBack(int quarrel) {
-            int paid = laws.dues(quarrel);
-            world.now.purse -= paid;
+        private void giveBack(int quarrel, int price) {
+            world.now.purse -= price;
             world.now.how[quarrel] = REDEEMED;
             world.write(quarrel, WROTE_REDEEMED);
-            return paid;
         }
 
         private boolean canPayOut(int sum) {
@@ -1735,7 +1711,7 @@ public final class QuarrelsPawned {
         private final World world;
         private final Laws laws;
         private final int[] order = new int[PLANNED];
-        private final int[] due = new int[QUARRELS];
+        private final int[] dues = new int[QUARRELS];
 
         Planner(World world, Laws laws) {
             this.world = world;
@@ -1746,7 +1722,7 @@ public final class QuarrelsPawned {
         int coolestSet() {
             int pawned = pawnedSet();
             for (int i = 0; i < world.now.quarrels; i++) {
-                due[i] = laws.dues(i);
+                dues[i] = laws.dues(i);
             }
             int coolest = 0;
             for (int set = 1; set < SETS; set++) {
@@ -1769,7 +1745,7 @@ public final class QuarrelsPawned {
 
         /** Of the dues that coolestSet asked for last. */
         int duesOf(int set) {
-            return sumOver(set, due);
+            return sumOver(set, dues);
         }
 
         private static int sumOver(int set, int[] row) {
@@ -1815,8 +1791,9 @@ public final class QuarrelsPawned {
             for (int i = 0; i < QUARRELS; i++) {
                 int when = (left >> i & 1) == 1 ? firstDay(i, days, paid) : NONE;
                 if (when != NONE) {
+                    int due = laws.duesBy(world.ruling, i, when, purseOn(when, paid));
                     order[depth] = i;
-                    tryNext(depth + 1, left & ~(1 << i), when, paid + duesOn(i, when, paid));
+                    tryNext(depth + 1, left & ~(1 << i), when, paid + due);
                 }
             }
         }
@@ -1832,7 +1809,8 @@ public final class QuarrelsPawned {
         /** The first day from one on by which there is enough; none that would come behind the best plan yet. */
         private int firstDay(int quarrel, int from, int paid) {
             for (int days = from; days <= MOST_DAYS && days <= bestDays; days++) {
-                if (purseOn(days, paid) >= duesOn(quarrel, days, paid)) {
+                int purse = purseOn(days, paid);
+                if (purse >= laws.duesBy(world.ruling, quarrel, days, purse)) {
                     return days;
                 }
             }
@@ -1843,15 +1821,11 @@ public final class QuarrelsPawned {
             return world.now.purse + world.told.wage * days - paid;
         }
 
-        private int duesOn(int quarrel, int days, int paid) {
-            return laws.duesLater(quarrel, days, purseOn(days, paid));
-        }
-
         int cheapestDay(int quarrel, int n) {
             int cheapest = 0;
             int least = MOST_DUES + 1;
             for (int days = 0; days <= n; days++) {
-                int then = laws.duesLater(quarrel, days, world.now.purse);
+                int then = laws.duesBy(world.ruling, quarrel, days, world.now.purse);
                 if (then < least) {
                     least = then;
                     cheapest = days;
