@@ -105,6 +105,7 @@ public final class QuarrelsPawnedPromises {
         silent();
         ledger();
         image();
+        imageOfThePast();
         about();
         System.out.println(wrong == 0 ? "all " + asked + " answers are as due" : wrong + " answers are not as due");
         if (wrong != 0) {
@@ -249,6 +250,55 @@ public final class QuarrelsPawnedPromises {
         faultsOfNumbers();
         faultsOfDepth();
         faultsOfLaws();
+        faultsOfCutTapes();
+        textsOneBehindTheOther();
+    }
+
+    private static void readsCut(String text, int n, int fault, int place) {
+        QuarrelsPawned x = new QuarrelsPawned();
+        tape(x, text);
+        due("end(" + n + ")", x.end(n), n);
+        due("text() of '" + text + "' to " + n, x.text(), fault == 0 ? 0 : NONE);
+        due("fault(0) of '" + text + "' to " + n, x.fault(0), fault);
+        due("fault(1) of '" + text + "' to " + n, x.fault(1), place);
+    }
+
+    /** What stood behind the end of the tape is not read. */
+    private static void faultsOfCutTapes() {
+        readsCut("earn 12;", 6, 1, 6);
+        readsCut("earn 12;", 7, 1, 7);
+        readsCut("earn 1234;", 8, 1, 8);
+        readsCut("dues  1;", 5, 1, 5);
+        readsCut("dues 1;  !", 8, 0, NONE);
+        readsCut("pawned", 4, 1, 4);
+        readsCut("dues if 1<=2", 10, 1, 10);
+        readsCut("dues 1;day 2;", 7, 0, NONE);
+        readsCut("dues purser;", 10, 1, 10);
+        // a 60 cut from 601 is a number of days
+        readsCut("day 601;", 6, 1, 6);
+    }
+
+    /** Nothing of a text that was read stays for the next. */
+    private static void textsOneBehindTheOther() {
+        QuarrelsPawned x = new QuarrelsPawned();
+        x.quarrel(0, 1, 50, 0);
+        String ones = "1" + times(140, "+1");
+        for (int i = 0; i < 4; i++) {
+            due("a long law with a fault", tell(x, "sells 0;dues " + ones), NONE);
+            due("fault(1)", x.fault(1), 294);
+        }
+        due("text", tell(x, "sells 7;earn 1;earn 1;earn 1;dues 8;"), 0);
+        due("text", tell(x, "dues 9;"), 1);
+        due("text", tell(x, "sells 4;dues " + ones + ";"), 2);
+        due("text", tell(x, "earn 1;"), 3);
+        int[][] want = {{8, 7}, {9, -30}, {141, 4}, {50, -30}};
+        for (int i = 0; i < 4; i++) {
+            x.by(i);
+            due("dues by text " + i, x.of(0, 6), want[i][0]);
+            due("sells by text " + i, x.of(0, 7), want[i][1]);
+        }
+        due("played(3)", x.played(3), NONE);
+        due("is(2)", x.is(2), 1);
     }
 
     private static void faultsOfPlace() {
@@ -276,6 +326,17 @@ public final class QuarrelsPawnedPromises {
         reads("dues dues;", 1, 5);
         reads("dues not 1;", 1, 5);
         reads("dues foo;", 1, 5);
+        reads("dues z;", 1, 5);
+        reads("dues 1z;", 1, 6);
+        reads("pawnz 1;", 1, 0);
+        reads("pawnA 1;", 1, 0);
+        reads("pawnZ 1;", 1, 0);
+        reads("pawn[1;", 1, 4);
+        reads("pawn@1;", 1, 4);
+        reads("pawn`1;", 1, 4);
+        reads("pawn{1;", 1, 4);
+        reads("pawn:1;", 1, 4);
+        reads("Apawn 1;", 1, 0);
         reads("dues end;", 1, 5);
         reads("pawn heat;", 1, 5);
         reads("pawn -1;", 1, 5);
@@ -359,6 +420,10 @@ public final class QuarrelsPawnedPromises {
         reads("sells purse;", 5, 6);
         reads("sells 1 purse;", 1, 8);
         reads("dues 1;sells purse;", 5, 13);
+        reads("sells 1;dues purse;", 0, NONE);
+        reads("sells 1;dues pawned;", 5, 13);
+        reads("sells " + times(8, "(") + "1" + times(8, ")") + ";", 0, NONE);
+        reads("sells " + times(9, "(") + "1" + times(9, ")") + ";", 3, 14);
         reads("dues 1;dues 2;", 4, 7);
         reads("sells 1;dues 1;sells 2;", 4, 15);
         reads(times(24, "day 1;") + "  ", 0, NONE);
@@ -542,6 +607,10 @@ public final class QuarrelsPawnedPromises {
         x.day(32);
         due("of(2,4)", x.of(2, 4), 3);
         due("redeem(2) when sold", x.redeem(2), NONE);
+        x.quarrel(1, 2, 50, 3);
+        x.pawn(3);
+        x.earn(50);
+        due("redeem(3) on the same day", x.redeem(3), 50);
         QuarrelsPawned free = ruled("dues 0-5;");
         free.quarrel(0, 1, 1, 0);
         free.pawn(0);
@@ -746,6 +815,15 @@ public final class QuarrelsPawnedPromises {
         due("played(2)", x.played(2), 1);
         due("played(2): beyond 9999", x.played(2), 0);
         due("is(2)", x.is(2), 9992);
+        QuarrelsPawned other = new QuarrelsPawned();
+        tell(other, "quarrel 0 by 1 worth 8;quarrel 2 by 1 worth 6;pawn 1;earn 3;redeem 1;");
+        due("played(0)", other.played(0), NONE);
+        due("of(0,4)", other.of(0, 4), 0);
+        due("of(1,4)", other.of(1, 4), 2);
+        due("of(0,3)", other.of(0, 3), 0);
+        due("is(2)", other.is(2), 0);
+        due("played(0): 1 is redeemed", other.played(0), 2);
+        due("about(0)", other.about(0), 4);
         QuarrelsPawned full = new QuarrelsPawned();
         tell(full, times(9, "quarrel 0 by 1 worth 1;"));
         due("played(0): the ninth", full.played(0), 8);
@@ -760,6 +838,8 @@ public final class QuarrelsPawnedPromises {
         due("years(0,0)", x.years(0, 0), NONE);
         due("years(0,41)", x.years(0, 41), NONE);
         due("about(3)", x.about(3), 0);
+        due("years(0,40)", x.years(0, 40) > 0 ? 1 : 0, 1);
+        due("undo()", x.undo(), 0);
         due("years(9999,1): 20371 by 6 leaves 1", x.years(9999, 1), 0);
         due("is(1)", x.is(1), (20371 * 619 + 493) % 30871);
         due("about(3)", x.about(3), 1);
@@ -808,6 +888,19 @@ public final class QuarrelsPawnedPromises {
         due("8 is enough", y.of(0, 4), 2);
         due("is(2)", y.is(2), 0);
         due("about(3)", y.about(3), 4);
+        // of one quarrel; one that is going on is not redeemed
+        QuarrelsPawned z = new QuarrelsPawned();
+        z.quarrel(0, 1, 8, 2);
+        z.earn(9);
+        z.years(12, 1);
+        due("going on", z.of(0, 4), 0);
+        due("is(2)", z.is(2), 9);
+        z.pawn(0);
+        z.years(12, 1);
+        due("redeemed", z.of(0, 4), 2);
+        due("is(2)", z.is(2), 5);
+        z.years(12, 1);
+        due("is(2)", z.is(2), 5);
         pawnedByYears();
     }
 
@@ -1038,6 +1131,12 @@ public final class QuarrelsPawnedPromises {
         no("speak(1,6)", x.speak(1, 6));
         no("speak(min,max)", x.speak(Integer.MIN_VALUE, Integer.MAX_VALUE));
         promise = 20;
+        due("group(0)", lonely().group(0), 1);
+        due("group(1)", lonely().group(1), 62);
+        promise = 21;
+        due("groups(false)", lonely().groups(false), 2);
+        due("groups(true)", lonely().groups(true), 5);
+        promise = 20;
         due("group(0)", x.group(0), 1);
         due("group(3)", x.group(3), 62);
         due("group(-1)", x.group(-1), NONE);
@@ -1182,6 +1281,12 @@ public final class QuarrelsPawnedPromises {
             y.pawn(i);
         }
         due("all()", y.all(), 3);
+        QuarrelsPawned z = new QuarrelsPawned();
+        for (int i = 0; i < 5; i++) {
+            z.quarrel(5, i, 7 + i, 0);
+            z.pawn(i);
+        }
+        due("all(): the last one", z.all(), 7);
     }
 
     private static void cutsAndGossips() {
@@ -1257,6 +1362,22 @@ public final class QuarrelsPawnedPromises {
         z.quarrel(0, 1, 20, 0);
         z.pawn(0);
         due("cool(0): for nothing, but without heat", z.cool(0), 0);
+        z.quarrel(0, 1, 20, 1);
+        due("cool(0): 1 is going on", z.cool(0), 0);
+        z.pawn(1);
+        due("cool(0)", z.cool(0), 2);
+        QuarrelsPawned w = ruled("dues 0;");
+        w.quarrel(0, 1, 20, 2);
+        due("cool(0): 0 is going on", w.cool(0), 0);
+        w.pawn(0);
+        due("cool(0)", w.cool(0), 1);
+        due("cool(1)", w.cool(1), 2);
+        for (int i = 1; i < 8; i++) {
+            w.quarrel(0, 1, 20, 2);
+            w.pawn(i);
+        }
+        due("cool(0): all", w.cool(0), 255);
+        due("cool(1)", w.cool(1), 16);
     }
 
     private static void plans() {
@@ -1313,6 +1434,20 @@ public final class QuarrelsPawnedPromises {
         y.earns(0);
         due("plan(3,0)", y.plan(3, 0), NONE);
         due("plan(3,1)", y.plan(3, 1), NONE);
+        QuarrelsPawned z = new QuarrelsPawned();
+        z.quarrel(0, 1, 10, 0);
+        z.quarrel(0, 1, 40, 0);
+        z.earn(30);
+        due("plan(1,0): 0 is going on", z.plan(1, 0), NONE);
+        z.undo();
+        z.pawn(0);
+        z.pawn(1);
+        z.earns(10);
+        // of 25: 0 for 10 and then 1 for 42 on day 3; or 1 for 41 on day 2 and 0 for 10 on day 3
+        due("plan(3,0)", z.plan(3, 0), 3);
+        due("plan(3,1): the less", z.plan(3, 1), 51);
+        due("plan(3,2)", z.plan(3, 2), 1);
+        due("plan(3,3)", z.plan(3, 3), 0);
         due("plan(3,2)", y.plan(3, 2), NONE);
         due("is(2): nothing is changed", y.is(2), 50);
         due("of(0,4)", y.of(0, 4), 1);
@@ -1387,6 +1522,11 @@ public final class QuarrelsPawnedPromises {
         y.earns(50);
         due("best: no wage comes", y.best(0, 60, false), 90);
         due("best: the first", y.best(0, 60, true), 0);
+        QuarrelsPawned dear = ruled("dues 9999;");
+        dear.quarrel(0, 1, 20, 0);
+        dear.pawn(0);
+        due("best of the dearest", dear.best(0, 5, true), 0);
+        due("best of the dearest", dear.best(0, 5, false), 9999);
         QuarrelsPawned z = ruled("dues 70-day;");
         z.quarrel(0, 1, 20, 0);
         z.pawn(0);
@@ -1499,6 +1639,30 @@ public final class QuarrelsPawnedPromises {
         promise = 35;
         due("hung(2,-1)", y.hung(2, NONE), 3);
         due("hung(2,1)", y.hung(2, 1), 1);
+        // 0 would fit the first too, but nothing else fits the second
+        QuarrelsPawned w = new QuarrelsPawned();
+        w.quarrel(0, 1, 10, 0);
+        w.quarrel(0, 1, 12, 0);
+        w.quarrel(0, 1, 12, 0);
+        w.pawn(0);
+        w.pawn(1);
+        w.hook(11);
+        w.hook(9);
+        due("hung(1,-1)", w.hung(1, NONE), 1);
+        due("hung(1,0)", w.hung(1, 0), 1);
+        due("hung(1,1)", w.hung(1, 1), 0);
+        w.pawn(2);
+        w.hook(NONE);
+        w.hook(12);
+        due("hung(0,-1)", w.hung(0, NONE), 2);
+        promise = 36;
+        due("look(0): of two ways", w.look(0), 0);
+        w.hook(NONE);
+        w.hook(10);
+        w.hook(12);
+        due("look(0): not the one that always holds 0", w.look(0), 1);
+        due("look(0) again", w.look(0), 1);
+        promise = 35;
         QuarrelsPawned z = new QuarrelsPawned();
         for (int i = 0; i < 8; i++) {
             z.quarrel(0, 1, 50 + i, 0);
@@ -1749,6 +1913,47 @@ public final class QuarrelsPawnedPromises {
         promise = 46;
         due("back()", x.back(), 3);
         due("about(3)", x.about(3), 4);
+    }
+
+    /** What was taken back and done in another way is as in the image again. */
+    private static void imageOfThePast() {
+        promise = 46;
+        QuarrelsPawned x = new QuarrelsPawned();
+        x.quarrel(0, 1, 30, 4);
+        x.quarrel(0, 2, 10, 4);
+        x.earn(3);
+        x.pawn(0);
+        x.earn(4);
+        tell(x, "dues number+10;");
+        x.said(0, 10);
+        x.image();
+        x.undo();
+        x.undo();
+        x.undo();
+        x.day(3);
+        x.pawn(1);
+        x.pawn(0);
+        x.earn(100);
+        x.said(NONE, 0);
+        x.said(1, 10);
+        due("whose()", x.whose(), 0);
+        due("back()", x.back(), 0);
+        due("of(0,5)", x.of(0, 5), 0);
+        due("of(1,4)", x.of(1, 4), 0);
+        due("is(2)", x.is(2), 22);
+        due("book(-1,0)", x.book(NONE, 0), 1);
+        due("book(0,0)", x.book(0, 0), 0);
+        due("book(0,1)", x.book(0, 1), 0);
+        due("book(0,3)", x.book(0, 3), 18);
+        due("whose()", x.whose(), 1);
+        due("undo()", x.undo(), 2);
+        due("is(2)", x.is(2), 18);
+        due("undo()", x.undo(), 1);
+        due("is(2)", x.is(2), 3);
+        due("of(0,4)", x.of(0, 4), 0);
+        due("undo()", x.undo(), 0);
+        due("is(2)", x.is(2), 0);
+        due("undo()", x.undo(), NONE);
     }
 
     private static void about() {
