@@ -352,6 +352,8 @@ public final class QuarrelsPawnedPromises {
         reads("dues if 1< =2 then 1 else 2 end;", 1, 11);
         reads("dues if 1<=2 then 1 else 2 end;", 0, NONE);
         reads("dues if 1=<2 then 1 else 2 end;", 1, 10);
+        reads("dues if 1<=", 1, 11);
+        reads("dues if 1<", 1, 10);
         reads("dues if 1<2<3 then 1 else 2 end;", 1, 11);
         reads("dues if 1<2 and then 1 else 2 end;", 1, 16);
         reads("dues if not not 1#1 or 2>=1 and 3>2 then 1 else 2 end;", 0, NONE);
@@ -529,6 +531,11 @@ public final class QuarrelsPawnedPromises {
         says("if 1=2 or 1=2 then 3 else 4 end", 4);
         says("if 1+1=2*1 then 3+1 else 4 end*2", 8);
         says("2*if 1=1 then if 1=2 then 1 else 5 end else 9 end+1", 11);
+        QuarrelsPawned eight = ruled("dues hot 8+hot 7;");
+        for (int i = 0; i < 8; i++) {
+            eight.quarrel(0, 1, 5, 9);
+        }
+        due("of(0,6): there is no 8", eight.of(0, 6), 9);
         QuarrelsPawned x = ruled("sells pawned*10+number;");
         x.quarrel(0, 1, 5, 0);
         x.quarrel(0, 2, 5, 0);
@@ -1954,6 +1961,19 @@ public final class QuarrelsPawnedPromises {
         due("undo()", x.undo(), 0);
         due("is(2)", x.is(2), 0);
         due("undo()", x.undo(), NONE);
+        QuarrelsPawned y = new QuarrelsPawned();
+        for (int i = 0; i < 40; i++) {
+            y.earn(1);
+        }
+        y.image();
+        for (int i = 0; i < 35; i++) {
+            y.earn(2);
+        }
+        y.back();
+        for (int i = 29; i >= 0; i--) {
+            due("undo()", y.undo(), i);
+            due("is(2)", y.is(2), 10 + i);
+        }
     }
 
     private static void about() {
