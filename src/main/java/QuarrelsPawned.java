@@ -88,7 +88,18 @@ public final class QuarrelsPawned {
     private static final String WORDS =
             "day rain number worth heat held purse pawned dues sells quarrel by pawn redeem earn rest hot if then else end not and or ";
     private static final int FIRST_WORD = 128;
+
+    // The NAMES, as they come first among WORDS.
     private static final int NAMES = 8;
+    private static final int NAME_DAY = 0;
+    private static final int NAME_RAIN = 1;
+    private static final int NAME_NUMBER = 2;
+    private static final int NAME_WORTH = 3;
+    private static final int NAME_HEAT = 4;
+    private static final int NAME_HELD = 5;
+    private static final int NAME_PURSE = 6;
+    private static final int NAME_PAWNED = 7;
+
     private static final int WORD_DAY = 128;
     private static final int WORD_WORTH = 131;
     private static final int WORD_PURSE = 134;
@@ -826,8 +837,8 @@ public final class QuarrelsPawned {
         /** By a TEXT (or none), so many DAYS later, PURSE being so much. */
         int duesBy(int ruling, int quarrel, int later, int purse) {
             nameAll(quarrel, later, purse);
-            int worth = names[3];
-            int due = worth + names[5] * worth / 50;
+            int worth = names[NAME_WORTH];
+            int due = worth + names[NAME_HELD] * worth / 50;
             if (world.hasText(ruling) && world.texts[ruling].hasDues()) {
                 Text text = world.texts[ruling];
                 due = valueOf(text.code, text.duesFrom, text.duesTo);
@@ -847,7 +858,7 @@ public final class QuarrelsPawned {
 
         int sells(int quarrel) {
             nameAll(quarrel, 0, 0);
-            int said = names[5] - 30;
+            int said = names[NAME_HELD] - 30;
             if (world.hasText(world.ruling) && world.texts[world.ruling].hasSells()) {
                 Text text = world.texts[world.ruling];
                 said = valueOf(text.code, text.sellsFrom, text.sellsTo);
@@ -866,17 +877,16 @@ public final class QuarrelsPawned {
             return true;
         }
 
-        /** In the order of WORDS: day rain number worth heat held purse pawned. */
         private void nameAll(int quarrel, int later, int purse) {
             Stand now = world.now;
-            names[0] = now.day + later;
-            names[1] = now.rain;
-            names[2] = quarrel;
-            names[3] = world.worth[quarrel];
-            names[4] = now.heat[quarrel];
-            names[5] = now.how[quarrel] == PAWNED ? now.day - now.since[quarrel] + later : 0;
-            names[6] = purse;
-            names[7] = now.countPawned();
+            names[NAME_DAY] = now.day + later;
+            names[NAME_RAIN] = now.rain;
+            names[NAME_NUMBER] = quarrel;
+            names[NAME_WORTH] = world.worth[quarrel];
+            names[NAME_HEAT] = now.heat[quarrel];
+            names[NAME_HELD] = now.how[quarrel] == PAWNED ? now.day - now.since[quarrel] + later : 0;
+            names[NAME_PURSE] = purse;
+            names[NAME_PAWNED] = now.countPawned();
         }
 
         /** The code was read without FAULT, so the stack always holds what an operation takes. */
