@@ -8,7 +8,7 @@ import java.util.Random;
  * in another way (trees, lists of all ways, copies of everything).
  */
 public final class QuarrelsPawnedAgainstModel {
-    private static final int RUNS = 300;
+    private static final int RUNS = 1000;
     private static final int CALLS = 500;
 
     private static int wrong = 0;
