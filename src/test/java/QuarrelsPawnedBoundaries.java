@@ -71,6 +71,7 @@ public final class QuarrelsPawnedBoundaries {
         namesOfClauses();
         valuesToTheBounds();
         heatsAskedFor();
+        namesSay();
         duesAndSellsToTheBounds();
         playedToTheEnds();
         foretoldToTheEnds();
@@ -802,6 +803,18 @@ public final class QuarrelsPawnedBoundaries {
         due("of(0,7)", x.of(0, 7), -30);
         due("book(1,0): the DAY that passed", x.book(1, 0), 31);
         due("is(0)", x.is(0), 32);
+        QuarrelsPawned later = fresh();
+        later.quarrel(0, 1, 50, 0);
+        later.day(60);
+        later.pawn(0);
+        due("of(0,5): pawned today", later.of(0, 5), 0);
+        later.day(29);
+        due("of(0,5)", later.of(0, 5), 29);
+        due("of(0,6)", later.of(0, 6), 79);
+        due("of(0,7)", later.of(0, 7), -1);
+        due("day(2)", later.day(2), 0);
+        due("day(1)", later.day(1), 1);
+        due("book(1,0)", later.book(1, 0), 91);
         doc("11: how many QUARRELS are sold in them");
         QuarrelsPawned y = fresh();
         pawnAll(y, 9, 9, 9, 9, 9, 9, 9, 9);
@@ -1121,6 +1134,19 @@ public final class QuarrelsPawnedBoundaries {
         due("text(): there are none again", y.text(), 0);
         due("played(0)", y.played(0), NONE);
         due("is(2): the tape that stayed", y.is(2), 5);
+        QuarrelsPawned shorter = fresh();
+        tell(shorter, times(24, "earn 9;"));
+        tell(shorter, "earn 1;");
+        tell(shorter, "");
+        tell(shorter, "day 1;earn 2;");
+        due("played(1): one clause, behind a text of 24", shorter.played(1), NONE);
+        due("is(2)", shorter.is(2), 1);
+        due("played(2): none", shorter.played(2), NONE);
+        due("is(2)", shorter.is(2), 1);
+        due("played(3): two", shorter.played(3), NONE);
+        due("is(2)", shorter.is(2), 3);
+        due("played(0)", shorter.played(0), NONE);
+        due("is(2)", shorter.is(2), 219);
         doc("5: NONE: it has a FAULT");
         QuarrelsPawned z = fresh();
         due("text()", tell(z, "earn 0;"), NONE);
@@ -1220,6 +1246,30 @@ public final class QuarrelsPawnedBoundaries {
         reads("dues if 1=1 or", 1, 14);
         reads("dues if 1=1 and", 1, 15);
         reads("dues if not", 1, 11);
+        // nothing where something must stand
+        reads(";", 1, 0);
+        reads("earn ;", 1, 5);
+        reads("dues ;", 1, 5);
+        reads("sells ;", 1, 6);
+        reads("dues ();", 1, 6);
+        reads("dues 1+;", 1, 7);
+        reads("dues 1-;", 1, 7);
+        reads("dues 1*;", 1, 7);
+        reads("dues 1/;", 1, 7);
+        reads("dues -;", 1, 6);
+        reads("dues hot;", 1, 8);
+        reads("dues rest by 1;", 1, 10);
+        reads("dues rest 1 by;", 1, 14);
+        reads("dues if then 1 else 1 end;", 1, 8);
+        reads("dues if =1 then 1 else 1 end;", 1, 8);
+        reads("dues if 1= then 1 else 1 end;", 1, 11);
+        reads("dues if 1=1 then else 1 end;", 1, 17);
+        reads("dues if 1=1 then 1 else end;", 1, 24);
+        reads("dues if not then 1 else 1 end;", 1, 12);
+        reads("dues if 1=1 or then 1 else 1 end;", 1, 15);
+        reads("dues if 1<=", 1, 11);
+        reads("dues if 1>=", 1, 11);
+        reads("dues if 1<", 1, 10);
         // a number too high where none can stand is 1, where one can it is 2
         reads("10000", 1, 0);
         reads("earn 5 10000", 1, 7);
@@ -1535,6 +1585,38 @@ public final class QuarrelsPawnedBoundaries {
         due("of(0,7)", x.of(0, 7), -19);
     }
 
+    private static void namesSay() {
+        doc("NAMES: day, rain, number (of the QUARREL), worth, heat, held in both");
+        String[] names = {"day", "rain", "number", "worth", "heat", "held"};
+        for (int i = 0; i < names.length; i++) {
+            QuarrelsPawned x = ruled("dues " + names[i] + ";sells " + names[i] + "-50;");
+            x.quarrel(0, 1, 20, 4);
+            x.quarrel(2, 3, 30, 7);
+            x.quarrel(4, 5, 40, 8);
+            due("dues " + names[i] + " at first", x.of(1, 6), new int[] {0, 0, 1, 30, 7, 0}[i]);
+            due("sells " + names[i] + " at first", x.of(1, 7), new int[] {0, 0, 1, 30, 7, 0}[i] - 50);
+            x.day(1);
+            x.pawn(1);
+            x.day(1);
+            // rain by 373 and then by 14144; heats by 15283 and 19136, which 3 leaves 1 of
+            due("dues " + names[i], x.of(1, 6), new int[] {2, 0, 1, 30, 8, 1}[i]);
+            due("sells " + names[i], x.of(1, 7), new int[] {2, 0, 1, 30, 8, 1}[i] - 50);
+            x.undo();
+            due("dues " + names[i] + " a day ahead", x.of(1, 6), new int[] {1, 1, 1, 30, 8, 0}[i]);
+        }
+        doc("without: a TEXT that has no such law");
+        QuarrelsPawned x = ruled("dues 7;");
+        tell(x, "sells 8;");
+        tell(x, "earn 9;");
+        x.quarrel(0, 1, 20, 4);
+        int[][] want = {{7, -30}, {20, 8}, {20, -30}};
+        for (int i = 0; i < 3; i++) {
+            x.by(i);
+            due("dues by " + i, x.of(0, 6), want[i][0]);
+            due("sells by " + i, x.of(0, 7), want[i][1]);
+        }
+    }
+
     private static void duesAndSellsToTheBounds() {
         doc("dues: 0 at least, 9999 at most");
         says("9999", 9999);
@@ -1784,6 +1866,21 @@ public final class QuarrelsPawnedBoundaries {
         due("cost", x.cost(0, 1) > 0 ? 1 : 0, 1);
         x.day(1);
         due("cost: sold", x.cost(0, 1), NONE);
+        for (int lower = 0; lower < 2; lower++) {
+            QuarrelsPawned y = fresh();
+            y.quarrel(0, 1, 10, 0);
+            y.quarrel(1, 0, 20, 0);
+            y.pawn(lower);
+            due("cost: " + lower + " is pawned, the other is going on", y.cost(0, 1), NONE);
+            y.day(20);
+            y.pawn(1 - lower);
+            due("cost: both are pawned", y.cost(0, 1), lower == 0 ? 34 : 38);
+            y.day(20);
+            due("cost: " + lower + " is sold, the other is pawned", y.cost(0, 1), NONE);
+            due("of(" + lower + ",4)", y.of(lower, 4), 3);
+            due("of(" + (1 - lower) + ",4)", y.of(1 - lower, 4), 1);
+            due("all(): by others", y.all(), 0);
+        }
         doc("23: the least together (to itself 0)");
         for (int person = 0; person < 6; person++) {
             QuarrelsPawned y = lonely(person);
@@ -2145,6 +2242,12 @@ public final class QuarrelsPawnedBoundaries {
         pawnAll(dear, 5);
         due("best(0,60,true)", dear.best(0, 60, true), 0);
         due("best(0,60,false)", dear.best(0, 60, false), 9999);
+        QuarrelsPawned less = ruled("dues 9999-held/3;");
+        pawnAll(less, 5);
+        due("best(0,2,true)", less.best(0, 2, true), 0);
+        due("best(0,3,true)", less.best(0, 3, true), 3);
+        due("best(0,3,false)", less.best(0, 3, false), 9998);
+        due("best(0,60,true)", less.best(0, 60, true), 60);
     }
 
     private static void ticketsToTheEnds() {
@@ -2263,8 +2366,18 @@ public final class QuarrelsPawnedBoundaries {
             ways *= 8 - i;
             due("hung(0,NONE) of " + (i + 1), most.hung(0, NONE), ways);
             due("hung(0," + i + ")", most.hung(0, i), i);
+            due("hung(0," + (i + 1) + ")", most.hung(0, i + 1), -2);
+            due("hung(0,-2)", most.hung(0, -2), -2);
             due("look(0)", most.look(0), 0);
         }
+        doc("the lowest QUARREL on HOOK 0, then on 1, ..");
+        QuarrelsPawned needed = fresh();
+        pawnAll(needed, 20, 21, 22);
+        needed.hook(21);
+        needed.hook(19);
+        due("hung(1,NONE): 0 must hang on the second", needed.hung(1, NONE), 2);
+        due("hung(1,0)", needed.hung(1, 0), 1);
+        due("hung(1,1)", needed.hung(1, 1), 0);
         lookedFor();
     }
 
@@ -2297,6 +2410,20 @@ public final class QuarrelsPawnedBoundaries {
         due("hung(2,0)", x.hung(2, 0), 1);
         due("hung(2,1)", x.hung(2, 1), 2);
         due("look(2)", x.look(2), 0);
+        doc("36: (0 .. 9)");
+        QuarrelsPawned far = fresh();
+        pawnAll(far, 41, 59, 60);
+        far.hook(50);
+        due("look(8): no way", far.look(8), NONE);
+        due("look(9): two ways", far.look(9), 0);
+        due("look(10)", far.look(10), NONE);
+        far.hook(NONE);
+        far.hook(60);
+        due("look(0): one way", far.look(0), NONE);
+        pawnAll(far, 60);
+        due("look(0): two ways", far.look(0), 0);
+        due("look(-1)", far.look(-1), NONE);
+        doc("WHERE TO LOOK: the HOOK by whose QUARREL the most ways that can be left are fewest; of like ones the lowest");
         // the last of three alone tells them apart
         QuarrelsPawned y = fresh();
         pawnAll(y, 10, 30, 50, 52, 54);
@@ -2304,6 +2431,7 @@ public final class QuarrelsPawnedBoundaries {
         y.hook(30);
         y.hook(52);
         due("look(2)", y.look(2), 2);
+        due("look(2) again", y.look(2), 2);
         due("look(1): one way", y.look(1), NONE);
     }
 
@@ -2343,6 +2471,16 @@ public final class QuarrelsPawnedBoundaries {
         due("gain()", x.gain(), 99);
         due("bid(NONE,false): buyers too", x.bid(NONE, false), 0);
         due("market(0)", x.market(0), 0);
+        for (int i = 0; i < 10; i++) {
+            x.bid(i < 5 ? 90 + i : i, i < 5);
+        }
+        due("market(0)", x.market(0), 5);
+        x.bid(NONE, true);
+        x.bid(50, true);
+        x.bid(20, false);
+        due("market(1): nothing of the bids that are no more", x.market(1), 20);
+        due("market(2)", x.market(2), 50);
+        due("gain()", x.gain(), 30);
         doc("as long as the buyer's is no less than the seller's; without trades none");
         trades(new int[] {}, 0, NONE, NONE, 0);
         trades(new int[] {51}, 0, NONE, NONE, 0);
@@ -2407,6 +2545,17 @@ public final class QuarrelsPawnedBoundaries {
         x.said(NONE, 0);
         x.said(0, 0);
         due("whose(): whatever rules", x.whose(), 5);
+        QuarrelsPawned each = fresh();
+        for (int i = 0; i < 8; i++) {
+            each.quarrel(0, 1, 10 + i, 0);
+        }
+        tell(each, "dues worth;");
+        tell(each, "dues 10+number-number/7;");
+        for (int i = 0; i < 8; i++) {
+            each.said(i, 10 + i);
+            due("whose() of " + (i + 1), each.whose(), i < 7 ? 3 : 1);
+        }
+        due("said(8,18)", each.said(8, 18), -2);
         QuarrelsPawned y = fresh();
         pawnAll(y, 50);
         tell(y, "dues purse;");
@@ -2508,7 +2657,15 @@ public final class QuarrelsPawnedBoundaries {
             due("is(2)", x.is(2), purse >= 8 ? purse - 8 : purse);
             due("is(1)", x.is(1), next(397));
         }
+        yearsOfEachKind();
         doc("4, 5 a DAY (if it can pass)");
+        QuarrelsPawned sold = fresh();
+        pawnAll(sold, 8);
+        sold.day(31);
+        due("years(2,1): held for 31", sold.years(2, 1), 32);
+        due("of(0,4)", sold.of(0, 4), 3);
+        due("book(1,0)", sold.book(1, 0), 31);
+        due("undo()", sold.undo() >= 0 ? sold.of(0, 4) : NONE, 1);
         for (int left = 0; left <= 1; left++) {
             QuarrelsPawned x = fresh();
             pass(x, 9999 - left);
@@ -2521,6 +2678,117 @@ public final class QuarrelsPawnedBoundaries {
         due("years(0,1): 373 leaves 1, but there is no quarrel", none.years(0, 1), 0);
         due("is(1)", none.is(1), next(373));
         due("book(NONE,0)", none.book(NONE, 0), 0);
+    }
+
+    /** Steps that the image has are taken back and done in another way: the image has them as they were. */
+    private static void imageOfThePast() {
+        QuarrelsPawned x = fresh();
+        x.quarrel(0, 1, 60, 3);
+        x.quarrel(2, 3, 52, 4);
+        tell(x, "dues 9999;");
+        x.day(1);
+        x.pawn(0);
+        x.day(1);
+        x.pawn(1);
+        x.earns(7);
+        x.hook(55);
+        x.hook(60);
+        x.bid(30, true);
+        x.bid(10, false);
+        x.said(0, 9999);
+        int drawn = x.is(1);
+        int rain = x.is(3);
+        due("image()", x.image(), 2);
+        for (int i = 0; i < 4; i++) {
+            x.undo();
+        }
+        x.day(5);
+        x.earn(1);
+        x.pawn(1);
+        x.pawn(0);
+        x.earns(1);
+        x.hook(NONE);
+        x.hook(1);
+        x.hook(2);
+        x.bid(NONE, true);
+        x.bid(3, false);
+        x.bid(90, true);
+        x.said(NONE, 0);
+        x.said(1, 1);
+        due("back()", x.back(), 2);
+        due("is(1)", x.is(1), drawn);
+        due("is(3)", x.is(3), rain);
+        int[][] lines = {{1, 0, 0, 30}, {2, 1, 0, 56}};
+        for (int i = 0; i < 8; i++) {
+            due("book(" + i / 4 + "," + i % 4 + ")", x.book(i / 4, i % 4), lines[i / 4][i % 4]);
+        }
+        due("of(0,5)", x.of(0, 5), 1);
+        due("of(1,5)", x.of(1, 5), 0);
+        due("hung(9,NONE)", x.hung(9, NONE), 2);
+        due("hung(5,0)", x.hung(5, 0), 1);
+        due("market(1)", x.market(1), 10);
+        due("market(2)", x.market(2), 30);
+        due("whose()", x.whose(), 1);
+        // 0 for 62 behind a day, then 1 for 62; or 1 for 52 now, then 0 for 73
+        due("plan(3,0): 56, and 7 a day", x.plan(3, 0), 10);
+        due("plan(3,1)", x.plan(3, 1), 124);
+        int[] purses = {30, 30, 0, 0};
+        for (int i = 0; i < 4; i++) {
+            due("undo()", x.undo(), 3 - i);
+            due("is(2)", x.is(2), purses[i]);
+        }
+    }
+
+    /** A seed whose first draw earns and whose second is of this kind and for quarrel 1 of three. */
+    private static int seedFor(int kind) {
+        for (int seed = 0; seed <= 9999; seed++) {
+            int first = seed * 2 + 373;
+            int second = next(first);
+            if (first % 6 == 3 && second % 6 == kind && second / 6 % 3 == 1) {
+                return seed;
+            }
+        }
+        due("a seed of kind " + kind, 0, 1);
+        return 0;
+    }
+
+    private static void yearsOfEachKind() {
+        doc("x mod 6: 0 QUARREL x / 6 mod how many is PAWNED, 1, 2 REDEEMED (each if it can be)");
+        for (int kind = 0; kind < 3; kind++) {
+            int seed = seedFor(kind);
+            int earned = 1 + (seed * 2 + 373) / 6 % 9;
+            for (int how = 0; how < 4; how++) {
+                for (int less = 0; less < 2; less++) {
+                    QuarrelsPawned x = ruled("dues 30;sells 0;");
+                    x.quarrel(0, 1, 9, 0);
+                    x.quarrel(0, 1, 8, 0);
+                    x.quarrel(0, 1, 7, 0);
+                    if (how > 0) {
+                        x.pawn(1);
+                    }
+                    if (how == 2) {
+                        x.earn(26);
+                        x.redeem(1);
+                    } else if (how == 3) {
+                        x.by(NONE);
+                        x.day(32);
+                        x.by(0);
+                    }
+                    fill(x, 30 - earned - less);
+                    int lines = x.book(NONE, 0);
+                    x.years(seed, 2);
+                    boolean pawns = kind == 0 && how == 0;
+                    boolean redeems = kind > 0 && how == 1 && less == 0;
+                    String name = "years(" + seed + ",2) of kind " + kind + ", how " + how + ", less by " + less;
+                    due(name + ": of(1,4)", x.of(1, 4), pawns ? 1 : redeems ? 2 : how);
+                    due(name + ": is(2)", x.is(2), 30 - less + (pawns ? 4 : 0) - (redeems ? 30 : 0));
+                    due(name + ": book(NONE,0)", x.book(NONE, 0), lines + (pawns || redeems ? 1 : 0));
+                    due(name + ": of(0,4)", x.of(0, 4), 0);
+                    due(name + ": of(2,4)", x.of(2, 4), 0);
+                    due(name + ": is(1)", x.is(1), next(next(seed * 2 + 373)));
+                }
+            }
+        }
     }
 
     private static void images() {
@@ -2573,6 +2841,7 @@ public final class QuarrelsPawnedBoundaries {
             List<Integer> without = trace(b);
             due("all is so again", with.equals(without) ? 1 : 0, 1);
         }
+        imageOfThePast();
         doc("46: (it stays)");
         QuarrelsPawned y = fresh();
         y.earn(3);
