@@ -3,7 +3,7 @@ import java.util.List;
 
 /**
  * The document's boundary cases, sentence by sentence: the last value that is taken and the first that is refused,
- * nothing there yet and all places taken, what comes round again. A refused call is made on ports of several kinds,
+ * nothing there yet and all places taken, what comes round again. A refused call is made on up to four kinds of port,
  * and everything that can be asked of each must be as on a like port where the call was never made.
  */
 public final class QuarrelsPawnedBoundaries {
